@@ -1,0 +1,136 @@
+import java.lang.management.ManagementFactory;
+import java.lang.reflect.Constructor;
+import java.lang.reflect.Field;
+import java.lang.reflect.Method;
+import java.lang.reflect.Modifier;
+import java.nio.file.Files;
+import java.nio.file.Path;
+import java.util.Arrays;
+import java.util.Set;
+import java.util.TreeSet;
+import java.util.regex.Matcher;
+import java.util.regex.Pattern;
+import java.util.stream.Collectors;
+
+/** What LANGUAGE.md asks and can be seen from outside: the face, words that are not used, what a call makes. */
+public final class RuleTests {
+  private static final String FACE = "type(int,int) wipe(int) undo(int) fault(int) cell(int) bed() deed(int,int) "
+      + "set(int,int) thunder(int,int) back() read(int) carry(int,int,int) heard(int,int) noise(int) depth(int) wakes() "
+      + "exiled(int) loudest() hour(int,int) felt(int) lay(int) way(int,int) listened(int,int) forget() never() "
+      + "whence(int,int) what(int) ask(int) sleeps(int,int) day(int,int,int) sheet(int,int,int) lose(int) "
+      + "put(int,int,int,int) get(int,int,int) copy(int,int,int,int,int) write(int) count(int) digest()";
+  private static final Set<String> LONGS = Set.of("sleeps", "digest");
+  private static final Checks CHECKS = new Checks("rules");
+
+  public static void main(String[] args) throws Exception {
+    face();
+    names();
+    source();
+    room();
+    CHECKS.end();
+  }
+
+  private static void face() {
+    Class<?> c = FounderSleeps.class;
+    CHECKS.holds("public and final", Modifier.isPublic(c.getModifiers()) && Modifier.isFinal(c.getModifiers()));
+    Set<String> due = new TreeSet<>(Arrays.asList(FACE.split(" ")));
+    Set<String> got = new TreeSet<>();
+    for (Method m : c.getDeclaredMethods()) {
+      if (!Modifier.isPrivate(m.getModifiers()) && !m.isSynthetic()) {
+        String types = Arrays.stream(m.getParameterTypes()).map(Class::getName).collect(Collectors.joining(","));
+        got.add(m.getName() + "(" + types + ")");
+        CHECKS.holds(m + " is public, not static", Modifier.isPublic(m.getModifiers()) && !Modifier.isStatic(m.getModifiers()));
+        CHECKS.holds(m + " answers as told", m.getReturnType() == (LONGS.contains(m.getName()) ? long.class : int.class));
+      }
+    }
+    CHECKS.holds("the face is " + due + ", not " + got, due.equals(got));
+    Set<String> constants = new TreeSet<>();
+    for (Field f : c.getDeclaredFields()) {
+      boolean isStatic = Modifier.isStatic(f.getModifiers());
+      CHECKS.holds(f + " is final, if it is static", !isStatic || Modifier.isFinal(f.getModifiers()));
+      if (!Modifier.isPrivate(f.getModifiers())) {
+        constants.add(f.getName());
+      }
+    }
+    CHECKS.holds("constants", constants.equals(Set.of("NONE", "BAD", "NOT", "FULL")));
+    Constructor<?>[] all = c.getDeclaredConstructors();
+    CHECKS.holds("one constructor", all.length == 1 && all[0].getParameterCount() == 0 && Modifier.isPublic(all[0].getModifiers()));
+    CHECKS.due("NONE", FounderSleeps.NONE, -1);
+    CHECKS.due("BAD", FounderSleeps.BAD, -2);
+    CHECKS.due("NOT", FounderSleeps.NOT, -3);
+    CHECKS.due("FULL", FounderSleeps.FULL, -4);
+  }
+
+  private static void names() {
+    Set<String> open = Arrays.stream(FACE.split(" ")).map(s -> s.substring(0, s.indexOf('('))).collect(Collectors.toSet());
+    for (Method m : FounderSleeps.class.getDeclaredMethods()) {
+      CHECKS.holds(m + " bears no public name", Modifier.isPublic(m.getModifiers()) || !open.contains(m.getName()));
+      CHECKS.holds(m + " takes seven at most", m.getParameterCount() <= 7);
+    }
+    Class<?>[] inside = FounderSleeps.class.getDeclaredClasses();
+    CHECKS.holds("twelve classes at most", inside.length <= 11);
+    for (Class<?> c : inside) {
+      CHECKS.holds(c + " is static", Modifier.isStatic(c.getModifiers()) && !Modifier.isPublic(c.getModifiers()));
+      for (Method m : c.getDeclaredMethods()) {
+        CHECKS.holds(m + " bears no public name", !open.contains(m.getName()));
+        CHECKS.holds(m + " takes seven at most", m.getParameterCount() <= 7);
+      }
+      for (Field f : c.getDeclaredFields()) {
+        CHECKS.holds(f + " is not static", !Modifier.isStatic(f.getModifiers()));
+      }
+    }
+  }
+
+  private static void source() throws Exception {
+    String code = Files.readString(Path.of("src/main/java/FounderSleeps.java"));
+    String bare = code.replaceAll("(?s)/\\*.*?\\*/", " ").replaceAll("//[^\n]*", " ")
+        .replaceAll("\"[^\"\n]*\"", "text").replaceAll("'[^'\n]*'", "0");
+    for (String word : "throw throws try catch synchronized assert instanceof package native volatile transient".split(" ")) {
+      CHECKS.holds("no " + word, !Pattern.compile("\\b" + word + "\\b").matcher(bare).find());
+    }
+    for (String sign : new String[] {"->", "::", "@", "Exact", "Object", "hashCode", "toString", "\\u"}) {
+      CHECKS.holds("no " + sign, !bare.contains(sign));
+    }
+    Matcher imports = Pattern.compile("import ([^;]*);").matcher(bare);
+    while (imports.find()) {
+      CHECKS.holds("import of " + imports.group(1), imports.group(1).equals("java.util.Arrays"));
+    }
+    Matcher library = Pattern.compile("\\b(Arrays|Math|Long|Integer|System)\\.(\\w+)").matcher(bare);
+    Set<String> may = Set.of("Arrays.fill", "Math.min", "Math.max", "Long.bitCount", "Long.MIN_VALUE", "Integer.MIN_VALUE",
+        "System.arraycopy");
+    while (library.find()) {
+      CHECKS.holds(library.group() + " is of the library that may be used", may.contains(library.group()));
+    }
+    CHECKS.holds("signs 1 to 127", code.chars().allMatch(c -> c > 0 && c < 128));
+    int begun = 0;
+    String[] lines = code.split("\n");
+    for (int i = 0; i < lines.length; i++) {
+      if (lines[i].matches(" {2,4}[a-z].*\\) \\{")) {
+        begun = i;
+      }
+      if (lines[i].matches(" {2,4}\\}")) {
+        CHECKS.holds("the method at line " + (begun + 1) + " is short", i - begun <= 60 || lines[begun].contains("class"));
+      }
+    }
+  }
+
+  /** All that is used is made with the object: later calls make nothing. */
+  private static void room() {
+    com.sun.management.ThreadMXBean bean = (com.sun.management.ThreadMXBean) ManagementFactory.getThreadMXBean();
+    FounderSleeps x = Checks.town("......;..h...;..bf..;......;......;......", "00n0;07k1;15w1;20c2;14n4;07c3;35k6;22k8");
+    x.set(0, 0);
+    x.digest();
+    long id = Thread.currentThread().getId();
+    bean.getThreadAllocatedBytes(id);
+    long before = bean.getThreadAllocatedBytes(id);
+    for (int i = 0; i < 100; i++) {
+      x.sheet(i % 4, i % 3, 60);
+      x.set(0, i % 7);
+      x.digest();
+      x.write(i % 4);
+      x.read(i % 4);
+    }
+    long made = bean.getThreadAllocatedBytes(id) - before;
+    CHECKS.holds("500 calls make less than 4096 bytes: " + made, made < 4096);
+  }
+}
