@@ -409,7 +409,9 @@ public final class FounderSleeps {
     void renew(int s, int form, int n) {
       forms[s] = form;
       sizes[s] = n;
-      Arrays.fill(items, s * MOST_ITEMS, s * MOST_ITEMS + n, 0);
+      for (int i = 0; i < n; i++) {
+        items[s * MOST_ITEMS + i] = 0;
+      }
     }
 
     boolean hasItem(int s, int i) {
