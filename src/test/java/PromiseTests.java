@@ -1,4 +1,4 @@
-/** For each promise of the document: ordinary calls, the edges that it names, and wrong ones; all reckoned by hand. */
+/** For each promise of the document: ordinary calls, the edges that it names, and wrong ones; reckoned by hand, but for some days and digests. */
 public final class PromiseTests {
   private static final int NONE = -1, BAD = -2, NOT = -3, FULL = -4;
   private static final int NULL = -11, INDEX = -12, CAST = -13, STORE = -14, SIZE = -15;
