@@ -584,7 +584,7 @@ public final class FounderSleeps {
     if (sheets.isLost(s)) {
       return find(NULL);
     }
-    law.thunders.size = 0;
+    int had = law.thunders.size;
     for (int i = 0; i + 1 < sheets.sizes[s] && !law.thunders.isFull(); i += 2) {
       int at = sheets.item(s, i);
       int loud = sheets.item(s, i + 1);
@@ -594,7 +594,7 @@ public final class FounderSleeps {
       law.thunders.add(at, loud);
     }
     sleepAnew();
-    return law.thunders.size;
+    return law.thunders.size - had;
   }
 
   // ---- noise, sleep

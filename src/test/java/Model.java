@@ -346,13 +346,11 @@ final class Model {
     if (sheets[s] == null) {
       return found(1);
     }
-    thunders.clear();
-    for (int i = 0; i < sheets[s].length / 2; i++) {
-      if (thunder((int) sheets[s][2 * i], (int) sheets[s][2 * i + 1]) < 0) {
-        break;
-      }
+    int came = 0;
+    while (came < sheets[s].length / 2 && thunder((int) sheets[s][2 * came], (int) sheets[s][2 * came + 1]) > 0) {
+      came++;
     }
-    return thunders.size();
+    return came;
   }
 
   int carry(int loud, int from, int to) {

@@ -276,21 +276,38 @@ public final class PromiseTests {
     x.thunder(5, 5);
     fill(x, 0, 0, 1, 3, 2, 9, 7);
     due("two and a half", x.read(0), 2);
-    due("those told before are not any more", x.count(4), 2);
-    row("noises", noises(x), 0, 3, 9, 0, 0, 0, 0, 0, 0, 0);
+    due("behind the one told before", x.count(4), 3);
+    row("noises", noises(x), 0, 3, 9, 0, 0, 5, 0, 0, 0, 0);
     fill(x, 1, 2, 4, 1, 9, 2);
-    due("two, and no more", x.read(1), 2);
-    row("noises", noises(x), 0, 0, 0, 0, 1, 0, 0, 0, 0, 2);
-    fill(x, 1, 2, 1, 3, 10, 2, 3, 3);
-    due("up to a wrong hour", x.read(1), 1);
-    fill(x, 1, 1, 0, 1, 0, 2, 0, 0, 3, 3);
-    due("up to a wrong loudness", x.read(1), 2);
-    fill(x, 1, 2, 0, 1, 0, 1, 0, 1, 0, 1, 0, 1, 0, 1, 0, 1);
-    due("six at most", x.read(1), 6);
-    due("six", x.noise(0), 6);
+    due("two more", x.read(1), 2);
+    row("noises", noises(x), 0, 3, 9, 0, 1, 5, 0, 0, 0, 2);
+    due("only one has room", x.read(0), 1);
+    row("noises", noises(x), 0, 6, 9, 0, 1, 5, 0, 0, 0, 2);
+    due("none has room", x.read(0), 0);
+    due("the last of the sheet is undone first", x.back(), 5);
+    due("then those ahead", x.back(), 4);
+    row("noises", noises(x), 0, 3, 9, 0, 1, 5, 0, 0, 0, 0);
     x.sheet(1, 0, 0);
     due("an empty one", x.read(1), 0);
-    due("none then", x.back(), NOT);
+    due("it takes none away", x.count(4), 4);
+    x.lose(1);
+    due("nor does a lost one", x.read(1), NULL);
+    due("all four stand", x.thunder(0, 1), 5);
+    reads("one item is no whole one", 0, 3);
+    reads("up to a wrong hour", 1, 1, 3, 10, 2, 3, 3);
+    reads("up to an hour below 0", 1, 1, 3, -1, 2, 3, 3);
+    reads("up to a wrong loudness", 2, 0, 1, 0, 2, 0, 0, 3, 3);
+    reads("up to one too loud", 0, 0, 10, 0, 2);
+    reads("six at most", 6, 0, 1, 0, 1, 0, 1, 0, 1, 0, 1, 0, 1, 0, 1);
+  }
+
+  private static void reads(String what, int many, int... items) {
+    for (int form = 0; form < 3; form++) {
+      FounderSleeps x = new FounderSleeps();
+      fill(x, 3, form, items);
+      due(what, x.read(3), many);
+      due(what + ": they stand", x.count(4), many);
+    }
   }
 
   private static void noise() {
