@@ -1,8 +1,5 @@
 /** For each promise of the document: ordinary calls, the edges that it names, and wrong ones; reckoned by hand, but for some days and digests. */
-public final class PromiseTests {
-  private static final int NONE = -1, BAD = -2, NOT = -3, FULL = -4;
-  private static final int NULL = -11, INDEX = -12, CAST = -13, STORE = -14, SIZE = -15;
-  private static final int LEAST = Integer.MIN_VALUE;
+public final class PromiseTests extends Towns {
   private static final Checks CHECKS = new Checks("promises");
   private static int promise;
 
@@ -14,48 +11,6 @@ public final class PromiseTests {
     due(what + ": how many", got.length, want.length);
     for (int i = 0; i < want.length && i < got.length; i++) {
       due(what + " [" + i + "]", got[i], want[i]);
-    }
-  }
-
-  private static FounderSleeps town(String town, String deeds) {
-    return Checks.town(town, deeds);
-  }
-
-  private static FounderSleeps town(String town, String deeds, int depth, int charter) {
-    FounderSleeps x = Checks.town(town, deeds);
-    x.set(0, depth);
-    x.set(1, charter);
-    return x;
-  }
-
-  private static int[] noises(FounderSleeps x) {
-    int[] all = new int[10];
-    for (int i = 0; i < 10; i++) {
-      all[i] = x.noise(i);
-    }
-    return all;
-  }
-
-  private static int[] depths(FounderSleeps x) {
-    int[] all = new int[10];
-    for (int i = 0; i < 10; i++) {
-      all[i] = x.depth(i);
-    }
-    return all;
-  }
-
-  private static int[] items(FounderSleeps x, int s, int form, int n) {
-    int[] all = new int[n];
-    for (int i = 0; i < n; i++) {
-      all[i] = x.get(s, form, i);
-    }
-    return all;
-  }
-
-  private static void fill(FounderSleeps x, int s, int form, int... items) {
-    x.sheet(s, form, items.length);
-    for (int i = 0; i < items.length; i++) {
-      x.put(s, form, i, items[i]);
     }
   }
 
