@@ -62,6 +62,7 @@ final class PlanEdges extends Edges {
     felts("the least row of two", town("...b", "00c0;01c0", 2, 4), 2, 1, 2);
     felts("not side by side", town("..b..", "00c0;04c0", 5, 4), 2, 1, 3);
     felts("the first and a far one", town("..;bh;..", "01c0;05c0", 5, 4), 2, 0, 4);
+    felts("the first cell alone", town("..;bh", "01c0", 3, 4), 1, 0, NONE);
     felts("a house stays", town(".hb", "00n0", 8, 4), NONE, NONE, NONE);
     felts("felt stays", town(".fb", "00n0", 9, 4), NONE, NONE, NONE);
     felts("in the bed nothing helps", town("b.", "00n0", 13, 4), NONE, NONE, NONE);
@@ -70,6 +71,18 @@ final class PlanEdges extends Edges {
     felts("no town, thunder", withThunders(town("", "", 0, 4), 0, 1), NONE, NONE, NONE);
     felts("the last cells", town("hhhhhh;hhhhhh;hhhhhh;hhhhhh;hhhhhh;.h.b..", "35k0", 5, 4), 1, 34, NONE);
     felts("the last two", town("hhhhhh;hhhhhh;hhhhhh;hhhhhh;hhhhhh;.hb...", "35k0", 2, 4), 2, 33, 34);
+    FounderSleeps x = town("....b", "00n0", 6, 4);
+    felts("two at first", x, 2, 1, 2);
+    x.set(0, 8);
+    felts("then one", x, 1, 1, NONE);
+    x.set(0, 10);
+    felts("then none", x, 0, NONE, NONE);
+    x.thunder(0, 4);
+    felts("by thunder two again", x, 2, 1, 2);
+    x.thunder(0, 1);
+    felts("by more thunder not even two", x, NONE, NONE, NONE);
+    x.wipe(1);
+    felts("without the deed none", x, 0, NONE, NONE);
   }
 
   private void felts(String what, FounderSleeps x, int many, int first, int second) {
@@ -87,6 +100,7 @@ final class PlanEdges extends Edges {
         withThunders(town("b..", "", 0, 4), 9, 9, 9, 9, 9, 9, 9, 9), 1, 9);
     lay("no open cells", town("hbf", "01n0"), NONE, NONE);
     lay("no cells", town("", "00n0"), NONE, NONE);
+    lay("no open cells, though thunder wakes him anywhere", withThunders(town("hb", "", 0, 4), 3, 9, 3, 9), NONE, NONE);
     lay("only the first", town(".hhhhh;hhhhhb", ""), 0, NONE);
     lay("only the last", town("bhhhhh;hhhhhh;hhhhhh;hhhhhh;hhhhhh;hhhhh.", "35n0"), 35, 0);
     lay("without a bed", town("h...", "01n0"), 3, NONE);
@@ -243,8 +257,11 @@ final class PlanEdges extends Edges {
   private void ask() {
     says("ASK of a DEED: the HOUR in which the greatest number of its WHENCE by which NOISE (NONE, too) is alike is least,"
         + " of like ones the least.");
-    due("in its own hour, the last", town("..b", "00c9", 30, 20).ask(0), 9);
-    due("in its own hour, the first", town("..b", "00c0", 30, 20).ask(0), 0);
+    for (int hour = 0; hour <= 9; hour++) {
+      due("in its own hour", town("..b", "00c" + hour, 30, 20).ask(0), hour);
+    }
+    // In hour 5 four of five are alike: by the fifth cell the cart is not done.
+    due("the least of all, though a later hour is less than most", town("..b..", "00c0;03k5", 12, 4).ask(0), 0);
     due("no cells: all are alike", town("", "00w7").ask(0), 0);
     due("one cell: all are alike", town("b", "00w7").ask(0), 0);
     due("behind his waking all are alike by NONE", town("..b..", "00n4", 0, 20).ask(0), 4);

@@ -158,17 +158,35 @@ final class RefusalEdges extends Edges {
   }
 
   private void refused(Act act, int[] numbers) {
-    int refusal = 0;
-    for (int i = 0; i < numbers.length; i++) {
-      int next = act.spans[i].refusal(numbers[i]);
-      refusal = next == BAD || refusal == 0 ? next == 0 ? refusal : next : refusal;
-    }
+    int refusal = refusalOf(act, numbers);
     FounderSleeps x = busy();
     String what = act.name + Arrays.toString(numbers);
-    long want = act.name.equals("get") ? LEAST : act.name.equals("sleeps") ? Long.MIN_VALUE - refusal : refusal;
-    due(what, call(x, act.name, numbers), want);
+    due(what, call(x, act.name, numbers), answerOf(act.name, refusal));
     due(what + ": the finding", x.count(8), refusal == BAD ? 5 : -10 - refusal);
     due(what + " changes nothing else", all(x).equals(all(busy())) ? 1 : 0, 1);
+  }
+
+  /** BAD is told ahead of all others, whichever number it is for. */
+  private static int refusalOf(Act act, int[] numbers) {
+    int refusal = 0;
+    for (int i = 0; i < numbers.length && refusal != BAD; i++) {
+      int next = act.spans[i].refusal(numbers[i]);
+      if (next != 0) {
+        refusal = next;
+      }
+    }
+    return refusal;
+  }
+
+  private static long answerOf(String name, int refusal) {
+    switch (name) {
+      case "get":
+        return LEAST;
+      case "sleeps":
+        return Long.MIN_VALUE - refusal;
+      default:
+        return refusal;
+    }
   }
 
   private void accepted(Act act, int i, int v) {

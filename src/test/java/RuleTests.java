@@ -1,6 +1,7 @@
 import java.lang.management.ManagementFactory;
 import java.lang.reflect.Constructor;
 import java.lang.reflect.Field;
+import java.lang.reflect.InvocationTargetException;
 import java.lang.reflect.Method;
 import java.lang.reflect.Modifier;
 import java.nio.file.Files;
@@ -26,6 +27,7 @@ public final class RuleTests {
     face();
     names();
     source();
+    throwsNothing();
     room();
     CHECKS.end();
   }
@@ -112,6 +114,47 @@ public final class RuleTests {
         CHECKS.holds("the method at line " + (begun + 1) + " is short", i - begun <= 60 || lines[begun].contains("class"));
       }
     }
+  }
+
+  /** Rule 7: for any numbers, in any state, one call behind the other. */
+  private static void throwsNothing() throws Exception {
+    int[] few = {Integer.MIN_VALUE, -1, 0, 1, 3, 61, Integer.MAX_VALUE};
+    int[] many = {Integer.MIN_VALUE, -2, -1, 0, 1, 2, 3, 5, 8, 9, 10, 35, 36, 60, 61, 255, Integer.MAX_VALUE};
+    String[][] states = {{"", ""}, {"b", "39n9"}, {"..;", "00w0;"},
+        {"......;..h...;h.fb.h;...h..;.f...f;h.....", "00n0;07k1;15w1;20c2;14n4;07c3;35k6;22k8"}};
+    for (String[] state : states) {
+      for (Method m : FounderSleeps.class.getMethods()) {
+        if (m.getDeclaringClass() == FounderSleeps.class) {
+          FounderSleeps x = Checks.town(state[0], state[1]);
+          x.sheet(1, 0, 60);
+          x.sheet(2, 1, 1);
+          x.sheet(3, 2, 0);
+          sweep(x, m, m.getParameterCount() > 3 ? few : many);
+        }
+      }
+    }
+  }
+
+  private static void sweep(FounderSleeps x, Method m, int[] numbers) throws Exception {
+    int calls = 1;
+    for (int i = 0; i < m.getParameterCount(); i++) {
+      calls *= numbers.length;
+    }
+    Object[] arguments = new Object[m.getParameterCount()];
+    boolean well = true;
+    for (int i = 0; i < calls && well; i++) {
+      int rest = i;
+      for (int k = 0; k < arguments.length; k++) {
+        arguments[k] = numbers[rest % numbers.length];
+        rest /= numbers.length;
+      }
+      try {
+        m.invoke(x, arguments);
+      } catch (InvocationTargetException e) {
+        well = false;
+      }
+    }
+    CHECKS.holds(m.getName() + Arrays.toString(arguments) + " throws nothing", well);
   }
 
   /** All that is used is made with the object: later calls make nothing. */

@@ -275,6 +275,10 @@ final class SheetEdges extends Edges {
       x.listened(0, x.noise(0));
       due("and with what was listened", x.digest(), digestOf(x));
     }
+    for (int depth = 5; depth <= 10; depth++) {
+      x = town("....b", "00n0", depth, 4);
+      due("where felt helps, in depth " + depth, x.digest(), digestOf(x));
+    }
     String[] towns = {"b", "b;", "bh", "..", ".b.;...", "x"};
     String[] deeds = {"", "00n0", "00n0;", "39w9;00c5"};
     for (String t : towns) {

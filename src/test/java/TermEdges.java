@@ -13,8 +13,8 @@ final class TermEdges extends Edges {
     due("a 42nd", x.type(0, '.'), FULL);
     due("still 41", x.count(2), 41);
     says("An object is used for at most 512 calls after it has been made");
+    x = new FounderSleeps();
     for (int i = 1; i <= 511; i++) {
-      x = i == 1 ? new FounderSleeps() : x;
       x.type(i % 2, '.');
     }
     due("the 512th call", x.count(2), 41);
