@@ -27,6 +27,10 @@ public final class FounderSleeps {
   private static final int SHEETS = 4, FORMS = 3, MOST_ITEMS = 60;
   private static final int NULL = 1, INDEX = 2, CAST = 3, STORE = 4, SIZE = 5;
 
+  // LANGUAGE.md lists the functions of Integer and Long, not their constants.
+  private static final int LEAST_INT = 1 << 31;
+  private static final long LEAST_LONG = 1L << 63;
+
   // Above every sum of tolls, and small enough that two of it still fit an int.
   private static final int FAR = 1000000;
 
@@ -766,7 +770,7 @@ public final class FounderSleeps {
 
   public long sleeps(int c, int what) {
     if (isOutside(c, SIXTEENTHS + 1) || isOutside(what, 2)) {
-      return Long.MIN_VALUE - BAD;
+      return LEAST_LONG - BAD;
     }
     long above = weightOfSleep(c);
     long below = 1;
@@ -825,7 +829,7 @@ public final class FounderSleeps {
   }
 
   public int get(int s, int form, int i) {
-    return refusalOfItem(s, form, i) != 0 ? Integer.MIN_VALUE : sheets.item(s, i);
+    return refusalOfItem(s, form, i) != 0 ? LEAST_INT : sheets.item(s, i);
   }
 
   public int copy(int s, int i, int t, int j, int n) {

@@ -1,9 +1,12 @@
 import java.util.Random;
 
-/** Long runs of calls by chance (always the same ones), each answer beside that of the Model. */
+/** Runs of as many calls as an object is good for, by chance (always the same ones), each answer beside that of the Model. */
 public final class ModelTests {
   private static final int[] EDGES = {Integer.MIN_VALUE, -100, -2, -1, 0, 1, 2, 3, 4, 5, 8, 9, 10, 17, 18, 20, 21, 30, 31,
       35, 36, 39, 40, 41, 59, 60, 61, 99, 100, 255, 256, 70000, Integer.MAX_VALUE};
+  private static final int CALLS = 512;
+  /** A text takes some fifty calls, so none is begun later. */
+  private static final int LAST_TEXT = 450;
   private final Random random;
   private final Checks checks;
   private final FounderSleeps x = new FounderSleeps();
@@ -18,7 +21,7 @@ public final class ModelTests {
   }
 
   public static void main(String[] args) {
-    int runs = args.length > 0 ? Integer.parseInt(args[0]) : 150;
+    int runs = args.length > 0 ? Integer.parseInt(args[0]) : 120;
     Checks checks = new Checks("model");
     for (int run = 0; run < runs && !checks.failed(); run++) {
       new ModelTests(run, checks).go();
@@ -27,8 +30,8 @@ public final class ModelTests {
   }
 
   private void go() {
-    while (calls < 400 && !checks.failed()) {
-      int act = random.nextInt(30);
+    while (calls < CALLS - 1 && !checks.failed()) {
+      int act = calls < LAST_TEXT ? random.nextInt(30) : 2 + random.nextInt(28);
       if (act == 0) {
         tell(0, townText());
       } else if (act == 1) {
@@ -43,6 +46,7 @@ public final class ModelTests {
     }
     if (!checks.failed()) {
       call(37);
+      checks.due("calls of run " + run, calls, CALLS);
     }
   }
 

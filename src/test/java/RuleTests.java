@@ -7,7 +7,9 @@ import java.lang.reflect.Modifier;
 import java.nio.file.Files;
 import java.nio.file.Path;
 import java.util.Arrays;
+import java.util.Map;
 import java.util.Set;
+import java.util.TreeMap;
 import java.util.TreeSet;
 import java.util.regex.Matcher;
 import java.util.regex.Pattern;
@@ -25,8 +27,10 @@ public final class RuleTests {
 
   public static void main(String[] args) throws Exception {
     face();
+    faceOfTheDocument();
     names();
     source();
+    depthOfCalls();
     throwsNothing();
     room();
     CHECKS.end();
@@ -63,12 +67,42 @@ public final class RuleTests {
     CHECKS.due("FULL", FounderSleeps.FULL, -4);
   }
 
+  /** The lines between ```java and ```, each of which the class must have, with that type and those numbers. */
+  private static void faceOfTheDocument() throws Exception {
+    String doc = Files.readString(Path.of("../shared/DOC.md"));
+    String shown = doc.substring(doc.indexOf("```java") + 7, doc.indexOf("```", doc.indexOf("```java") + 7));
+    Set<String> due = new TreeSet<>();
+    Matcher calls = Pattern.compile("public (int|long) (\\w+)\\(([^)]*)\\);").matcher(shown);
+    while (calls.find()) {
+      due.add(calls.group(1) + " " + calls.group(2) + "(" + calls.group(3).replaceAll("int \\w+", "int").replace(" ", "") + ")");
+    }
+    Set<String> got = new TreeSet<>();
+    for (Method m : FounderSleeps.class.getDeclaredMethods()) {
+      if (Modifier.isPublic(m.getModifiers())) {
+        String types = Arrays.stream(m.getParameterTypes()).map(Class::getName).collect(Collectors.joining(","));
+        got.add(m.getReturnType() + " " + m.getName() + "(" + types + ")");
+      }
+    }
+    CHECKS.due("calls that the document shows", due.size(), 38);
+    CHECKS.holds("the document shows " + due + ", not " + got, due.equals(got));
+    Matcher constants = Pattern.compile("([A-Z]+) = (-?[0-9]+)").matcher(shown);
+    int many = 0;
+    while (constants.find()) {
+      many++;
+      CHECKS.due(constants.group(1), FounderSleeps.class.getField(constants.group(1)).getInt(null),
+          Integer.parseInt(constants.group(2)));
+    }
+    CHECKS.due("constants that the document shows", many, 4);
+  }
+
   private static void names() {
     Set<String> open = Arrays.stream(FACE.split(" ")).map(s -> s.substring(0, s.indexOf('('))).collect(Collectors.toSet());
     for (Method m : FounderSleeps.class.getDeclaredMethods()) {
       CHECKS.holds(m + " bears no public name", Modifier.isPublic(m.getModifiers()) || !open.contains(m.getName()));
       CHECKS.holds(m + " takes seven at most", m.getParameterCount() <= 7);
     }
+    long fields = Arrays.stream(FounderSleeps.class.getDeclaredFields()).filter(f -> !Modifier.isStatic(f.getModifiers())).count();
+    CHECKS.holds("twenty fields at most, not " + fields, fields <= 20);
     Class<?>[] inside = FounderSleeps.class.getDeclaredClasses();
     CHECKS.holds("twelve classes at most", inside.length <= 11);
     for (Class<?> c : inside) {
@@ -77,16 +111,25 @@ public final class RuleTests {
         CHECKS.holds(m + " bears no public name", !open.contains(m.getName()));
         CHECKS.holds(m + " takes seven at most", m.getParameterCount() <= 7);
       }
+      CHECKS.holds(c + " has twenty fields at most", c.getDeclaredFields().length <= 20);
       for (Field f : c.getDeclaredFields()) {
         CHECKS.holds(f + " is not static", !Modifier.isStatic(f.getModifiers()));
       }
     }
   }
 
-  private static void source() throws Exception {
-    String code = Files.readString(Path.of("src/main/java/FounderSleeps.java"));
-    String bare = code.replaceAll("(?s)/\\*.*?\\*/", " ").replaceAll("//[^\n]*", " ")
+  private static String code() throws Exception {
+    return Files.readString(Path.of("src/main/java/FounderSleeps.java"));
+  }
+
+  private static String withoutWords(String code) {
+    return code.replaceAll("(?s)/\\*.*?\\*/", " ").replaceAll("//[^\n]*", " ")
         .replaceAll("\"[^\"\n]*\"", "text").replaceAll("'[^'\n]*'", "0");
+  }
+
+  private static void source() throws Exception {
+    String code = code();
+    String bare = withoutWords(code);
     for (String word : "throw throws try catch synchronized assert instanceof package native volatile transient".split(" ")) {
       CHECKS.holds("no " + word, !Pattern.compile("\\b" + word + "\\b").matcher(bare).find());
     }
@@ -98,8 +141,7 @@ public final class RuleTests {
       CHECKS.holds("import of " + imports.group(1), imports.group(1).equals("java.util.Arrays"));
     }
     Matcher library = Pattern.compile("\\b(Arrays|Math|Long|Integer|System)\\.(\\w+)").matcher(bare);
-    Set<String> may = Set.of("Arrays.fill", "Math.min", "Math.max", "Long.bitCount", "Long.MIN_VALUE", "Integer.MIN_VALUE",
-        "System.arraycopy");
+    Set<String> may = Set.of("Arrays.fill", "Math.min", "Math.max", "Long.bitCount", "System.arraycopy");
     while (library.find()) {
       CHECKS.holds(library.group() + " is of the library that may be used", may.contains(library.group()));
     }
@@ -114,6 +156,42 @@ public final class RuleTests {
         CHECKS.holds("the method at line " + (begun + 1) + " is short", i - begun <= 60 || lines[begun].contains("class"));
       }
     }
+  }
+
+  /** Rules 8 and 11, by names alone: methods of one name count as one, so the way found is never too short. */
+  private static void depthOfCalls() throws Exception {
+    Pattern begin = Pattern.compile("( {2}| {4})(?:(?:public|private|static) )*(?:[\\w\\[\\]]+ )?(\\w+)\\([^)]*\\) \\{");
+    Map<String, String> bodies = new TreeMap<>();
+    String name = "";
+    String end = "";
+    for (String line : withoutWords(code()).split("\n")) {
+      Matcher m = begin.matcher(line);
+      if (name.isEmpty() && m.matches()) {
+        name = m.group(2);
+        end = m.group(1) + "}";
+      } else if (line.equals(end)) {
+        name = "";
+      } else if (!name.isEmpty()) {
+        bodies.merge(name, line, (a, b) -> a + " " + b);
+      }
+    }
+    CHECKS.holds("all public methods are found", bodies.keySet().containsAll(
+        Arrays.stream(FACE.split(" ")).map(s -> s.substring(0, s.indexOf('('))).collect(Collectors.toSet())));
+    for (String method : bodies.keySet()) {
+      int deep = deepest(method, bodies, 1);
+      CHECKS.holds(method + " goes eight deep at most, not " + deep, deep <= 8);
+    }
+  }
+
+  private static int deepest(String method, Map<String, String> bodies, int deep) {
+    int most = deep;
+    Matcher called = Pattern.compile("(\\w+)\\(").matcher(bodies.getOrDefault(method, ""));
+    while (called.find() && most <= 8) {
+      if (bodies.containsKey(called.group(1))) {
+        most = Math.max(most, deepest(called.group(1), bodies, deep + 1));
+      }
+    }
+    return most;
   }
 
   /** Rule 7: for any numbers, in any state, one call behind the other. */
